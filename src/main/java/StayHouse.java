@@ -264,7 +264,7 @@ public final class StayHouse {
             return NONE;
         }
         stage(AS_TOLD, n);
-        rest.tabulate();
+        rest.tabulate(n);
         int acts = rest.settle(n);
         for (int b = 0; b < town.bakers; b++) {
             outcome.oldStep[b] = town.oldStep(rest.actOf(acts, b));
@@ -446,7 +446,7 @@ public final class StayHouse {
             return NONE;
         }
         stage(ALL_NEAR, 1);
-        rest.tabulate();
+        rest.tabulate(1);
         for (int f = 0; f <= 100; f++) {
             // The same numbers of far looking ones as before lure as before.
             boolean other = rest.shareNewOnes(f);
@@ -605,7 +605,7 @@ public final class StayHouse {
     }
 
     private long worthAtRest(int baker, int n) {
-        rest.tabulate();
+        rest.tabulate(n);
         rest.settle(n);
         return rest.value[n][baker];
     }
@@ -717,7 +717,17 @@ public final class StayHouse {
             open(tape, n, told);
             nextToken();
             for (int lines = 0; lines <= TAPE && fault == 0; lines++) {
-                readLine(told);
+                if (isWord("baker")) {
+                    readBaker(told);
+                } else if (isWord("sort")) {
+                    readSort(told);
+                } else if (isWord("prices")) {
+                    readPrices(told);
+                } else if (isWord("keep")) {
+                    readKeep(told);
+                } else {
+                    fail(FORM, start);
+                }
                 if (fault == 0 && kind == END) {
                     break;
                 }
@@ -757,40 +767,30 @@ public final class StayHouse {
             }
             start = at;
             value = 0;
-            if (at >= end) {
-                kind = END;
-            } else if (isLetter(text[at])) {
-                nextWord();
-            } else if (isDigit(text[at])) {
-                nextWhole();
-            } else {
-                kind = text[at] == ';' ? LINE_END : text[at] == ',' ? COMMA : BAD;
+            kind = at < end ? kindOf(text[at]) : END;
+            if (kind == LINE_END || kind == COMMA || kind == BAD) {
                 at++;
             }
-            length = at - start;
-        }
-
-        private void nextWord() {
-            while (at < end && isLetter(text[at])) {
-                at++;
-            }
-            kind = at - start <= LONGEST_WORD ? WORD : BAD;
-        }
-
-        private void nextWhole() {
-            while (at < end && isDigit(text[at])) {
+            // All letters, or digits, that stand together; too many of them are no token.
+            while (at < end && (kind == WORD || kind == WHOLE) && kindOf(text[at]) == kind) {
                 value = 10 * value + text[at] - '0';
                 at++;
             }
-            kind = at - start <= LONGEST_WHOLE ? WHOLE : BAD;
+            length = at - start;
+            if (kind == WORD && length > LONGEST_WORD || kind == WHOLE && length > LONGEST_WHOLE) {
+                kind = BAD;
+            }
         }
 
-        private boolean isLetter(byte b) {
-            return b >= 'a' && b <= 'z';
-        }
-
-        private boolean isDigit(byte b) {
-            return b >= '0' && b <= '9';
+        /** Of the token that a byte begins. */
+        private int kindOf(byte b) {
+            if (b >= 'a' && b <= 'z') {
+                return WORD;
+            }
+            if (b >= '0' && b <= '9') {
+                return WHOLE;
+            }
+            return b == ';' ? LINE_END : b == ',' ? COMMA : BAD;
         }
 
         private boolean isWord(String word) {
@@ -803,20 +803,6 @@ public final class StayHouse {
                 }
             }
             return true;
-        }
-
-        private void readLine(Town told) {
-            if (isWord("baker")) {
-                readBaker(told);
-            } else if (isWord("sort")) {
-                readSort(told);
-            } else if (isWord("prices")) {
-                readPrices(told);
-            } else if (isWord("keep")) {
-                readKeep(told);
-            } else {
-                fail(FORM, start);
-            }
         }
 
         private void readBaker(Town told) {
@@ -986,29 +972,22 @@ public final class StayHouse {
         private int mostNear(int from) {
             int most = 0;
             for (int b = 0; b < town.bakers; b++) {
-                most = Math.max(most, nearHas(from, b));
+                most = Math.max(most, hasOf(from, b, false));
             }
             return most;
         }
 
-        private int nearHas(int from, int to) {
-            if (to == NO_BAKER) {
-                return 0;
-            }
-            int price = from == to ? oldPrice[to] : newPrice[to];
-            return town.worth[sort] - price - leaving(from, to);
-        }
-
-        private int leaving(int from, int to) {
-            if (from == to || from == NO_BAKER) {
-                return 0;
-            }
-            int leaves = town.leaves[sort];
-            return town.fits[from] == town.fits[to] ? leaves / 2 : leaves;
-        }
-
         int hasOf(int from, int to, boolean far) {
-            return nearHas(from, to) + (far ? ahead[to] : 0);
+            int has = far ? ahead[to] : 0;
+            if (to == NO_BAKER) {
+                return has;
+            }
+            has += town.worth[sort] - (from == to ? oldPrice[to] : newPrice[to]);
+            if (from != to && from != NO_BAKER) {
+                int leaves = town.leaves[sort];
+                has -= town.fits[from] == town.fits[to] ? leaves / 2 : leaves;
+            }
+            return has;
         }
 
         /** The baker that one from a baker, or a new one, goes to, or NO_BAKER. */
@@ -1161,8 +1140,11 @@ public final class StayHouse {
         private final int[] stride = new int[BAKERS];
         private int together = 0;
         private final int[] choices = new int[MOST_ACTS * SORTS];
+        /** The first acts of all by which everybody chooses as by these, so that the same are held next. */
+        private final int[] twin = new int[MOST_ACTS];
         /** By years left, acts of all and baker; the room for acts keeps more years as short as one. */
         private final long[] worths = new long[MOST_ACTS * BAKERS];
+        private final long[] later = new long[MOST_ACTS * BAKERS];
         /** Who is held, and what it is worth to each baker, by how many years are left. */
         final int[][] held = new int[MOST_AHEAD + 1][SEATS];
         final long[][] value = new long[MOST_AHEAD + 1][BAKERS];
@@ -1187,13 +1169,15 @@ public final class StayHouse {
         boolean shareNewOnes(int f) {
             boolean other = false;
             for (int s = 0; s < town.sorts; s++) {
-                other |= year.bring(s, town.fresh[s], town.fresh[s] * f / 100);
+                if (year.bring(s, town.fresh[s], town.fresh[s] * f / 100)) {
+                    other = true;
+                }
             }
             return other;
         }
 
         /** Choices hang on what is asked alone, not on who is held: they are made once for all years. */
-        void tabulate() {
+        void tabulate(int years) {
             together = 1;
             for (int b = town.bakers - 1; b >= 0; b--) {
                 stride[b] = together;
@@ -1202,7 +1186,27 @@ public final class StayHouse {
             for (int all = 0; all < together; all++) {
                 askAll(all);
                 market.chooseAll(choices, all * SORTS);
+                // With one year nobody looks at what is held next.
+                twin[all] = years > 1 ? firstLike(all) : all;
             }
+        }
+
+        private int firstLike(int all) {
+            for (int other = 0; other < all; other++) {
+                if (choosesAlike(other, all)) {
+                    return other;
+                }
+            }
+            return all;
+        }
+
+        private boolean choosesAlike(int one, int other) {
+            for (int s = 0; s < town.sorts; s++) {
+                if (choices[one * SORTS + s] != choices[other * SORTS + s]) {
+                    return false;
+                }
+            }
+            return true;
         }
 
         int actOf(int all, int baker) {
@@ -1226,7 +1230,7 @@ public final class StayHouse {
             }
             int base = (years - 1) * together * town.bakers;
             for (int all = 0; all < together; all++) {
-                weigh(all, years, base + all * town.bakers);
+                weigh(all, years, base);
             }
             int calmest = 0;
             long least = pull(0, base, NO_LONG);
@@ -1237,22 +1241,29 @@ public final class StayHouse {
                     calmest = all;
                 }
             }
-            unsure |= least > 0;
+            if (least > 0) {
+                unsure = true;
+            }
             System.arraycopy(worths, base + calmest * town.bakers, value[years], 0, town.bakers);
             return calmest;
         }
 
-        /** What acts of all are worth to each baker, into worths from a place on. */
-        private void weigh(int all, int years, int at) {
+        /** What acts of all are worth to each baker, into the rows of so many years left. */
+        private void weigh(int all, int years, int base) {
+            int at = base + all * town.bakers;
             askAll(all);
             year.pass(held[years], 0, choices, all * SORTS);
             System.arraycopy(year.earned, 0, worths, at, town.bakers);
-            if (years > 1) {
+            if (years == 1) {
+                return;
+            }
+            if (twin[all] == all) {
                 System.arraycopy(year.next, 0, held[years - 1], 0, SEATS);
                 settle(years - 1);
-                for (int b = 0; b < town.bakers; b++) {
-                    worths[at + b] += Math.floorDiv(town.keep * value[years - 1][b], 100L);
-                }
+                System.arraycopy(value[years - 1], 0, later, at, town.bakers);
+            }
+            for (int b = 0; b < town.bakers; b++) {
+                worths[at + b] += Math.floorDiv(town.keep * later[base + twin[all] * town.bakers + b], 100L);
             }
         }
 
@@ -1275,7 +1286,7 @@ public final class StayHouse {
 
         /** Goes through n years at rest and adds up what sorts pay and how often they leave. */
         void follow(int n) {
-            tabulate();
+            tabulate(n);
             Arrays.fill(paid, 0L);
             Arrays.fill(left, 0L);
             for (int years = Math.min(n, MOST_AHEAD); years >= 1; years--) {

@@ -202,6 +202,17 @@ public final class LawsTest {
         Check.due("all alike: as told", Check.open(CAPTIVE.replace("5,10", "5")).kindest(0, 2), 0);
         StayHouse more = both(CAPTIVE, 11);
         Check.due("kindest over two", more.kindest(0, 2), leastOf(more, 2));
+        StayHouse far = Check.open("baker a costs 6 fits 1 enters 0;baker b costs 6 fits 2 enters 0;"
+            + "sort s new 10 worth 20 leaves 8 stays 100 near;prices two 5,10;keep 100");
+        far.hold(0, 0, 8);
+        far.hold(1, 0, 12);
+        Check.due("300 by all but far looking, 260", far.paid(0, 1, 4), 260);
+        Check.due("far looking is kindest", far.kindest(0, 1), 4);
+        StayHouse near = Check.open("baker a costs 2 fits 1 enters 0;baker b costs 6 fits 2 enters 0;"
+            + "sort s new 10 worth 20 leaves 9 stays 100 far;prices two 5,10;keep 100");
+        near.hold(1, 0, 8);
+        Check.due("180 by all but near looking, 130", near.paid(0, 1, 5), 130);
+        Check.due("near looking is kindest", near.kindest(0, 1), 5);
     }
 
     private static int leastOf(StayHouse x, int n) {
@@ -259,6 +270,21 @@ public final class LawsTest {
         three.hold(0, 0, 20);
         Check.due("the first of those that fit alike", three.fit(1, 1), three.shape(1, 0, 1) > three.shape(1, 1, 1) ? 0 : 1);
         Check.due("itself among three", three.shape(1, 2, 1), three.shape(1, 0, 1));
+        fitAmongThree();
+    }
+
+    private static void fitAmongThree() {
+        StayHouse x = Check.open("baker a costs 2 fits 1 enters 0;baker b costs 4 fits 2 enters 0;baker c costs 6 fits 3 enters 0;"
+            + "sort s new 10 worth 20 leaves 7 stays 100 near;prices two 5,10;keep 50");
+        int[] held = {4, 12, 8};
+        long[] due = {12, 72, 20};
+        for (int b = 0; b < 3; b++) {
+            x.hold(b, 0, held[b]);
+        }
+        for (int other = 0; other < 3; other++) {
+            Check.due("the second fits " + other, x.shape(1, other, 1), due[other]);
+        }
+        Check.due("itself is best", x.fit(1, 1), 1);
     }
 
     private static void late() {

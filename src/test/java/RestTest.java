@@ -17,6 +17,7 @@ public final class RestTest {
         war();
         gains();
         gainsWithOnePrice();
+        bestOfMany();
         edges();
         Check.end();
     }
@@ -140,6 +141,11 @@ public final class RestTest {
         Check.due("new is old", x.act(1, 1), 0);
         Check.due("worth", x.worth(0), 95);
         Check.due("worth", x.worth(1), 5);
+        StayHouse small = Check.open(CAPTIVE.replace("HOW", "one").replace("5,10", "1,2"));
+        small.hold(0, 0, 9);
+        small.hold(1, 0, 1);
+        Check.due("by 1 alone", small.rest(1), 1);
+        Check.due("worth", small.worth(0), 19);
         x.hold(0, 0, 11);
         Check.due("sure", x.rest(1), 0);
         Check.due("first", x.act(0, 0), 1);
@@ -273,6 +279,21 @@ public final class RestTest {
         Check.due("gain of the second", x.gain(1), 0);
     }
 
+    /** The first thing asked of a town, with steps and new ones of its own. */
+    private static void bestOfMany() {
+        StayHouse x = Check.open(FREE + "sort s new 10 worth 50 leaves 99 stays 100 far;sort t new 1 worth 30 leaves 99 stays 100 near;"
+            + "prices two 5,10,40;keep 100");
+        Check.due("best", x.best(1), 0);
+        x.ask(0, 2, 2);
+        // Far looking ones pay 40 now to pay 5 then, rather than 40 and 40.
+        Check.due("best of three steps", x.best(1), 2);
+        x.ask(0, 2, 1);
+        x.hold(1, 1, 3);
+        // 40 and 5 against 10 and 40: asking 10 of the three that are held would bring 15, but lose the ten.
+        Check.due("best with held ones of the poorer sort", x.best(1), 2);
+        Check.due("gain", x.gain(1), 10 * 40 + 3 * 5 - (10 * 5 + 1 * 5 + 3 * 5));
+    }
+
     private static void edges() {
         Check.due("one price: nobody lures", Check.open(CAPTIVE.replace("HOW", "one")).edge(), 0);
         StayHouse x = Check.open(CAPTIVE.replace("HOW", "two").replace("keep 100", "keep 0"));
@@ -286,6 +307,7 @@ public final class RestTest {
         String text = CAPTIVE.replace("HOW", "two");
         Check.due("one held, one far looking", edgeOf(text, 1), 10);
         Check.due("two held", edgeOf(text, 2), 20);
+        Check.due("ten held: all of them", edgeOf(text, 10), 100);
         Check.due("eleven held", edgeOf(text, 11), -2);
         Check.due("looks as told do not matter", edgeOf(text.replace("near", "far"), 2), 20);
         Check.due("hundredths of three, downwards", edgeOf(text.replace("new 10", "new 3"), 1), 34);

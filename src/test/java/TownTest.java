@@ -158,6 +158,10 @@ public final class TownTest {
         bad(A + ";sort a", 3, 38);
         bad(S + ";sort s new 1", 3, S.length() + 6);
         bad(S + ";baker s", 3, S.length() + 7);
+        String z = "baker xyz costs 2 fits 1 enters 10;";
+        bad(z + "sort xyz", 3, z.length() + 5);
+        good(z + z.replace("xyz", "yyz") + z.replace("xyz", "xyx") + S + ";" + P + ";" + K, 3);
+        good(z + z.replace("xyz", "xy") + S.replace(" s ", " x ") + ";" + P + ";" + K, 2);
         bad(P + ";" + K + ";" + P, 3, P.length() + K.length() + 2);
         bad(K + ";keep", 3, 8);
         good(A.replace(" a ", " ab ") + ";" + A + ";" + S.replace(" s ", " b ") + ";" + P + ";" + K, 2);
@@ -308,5 +312,33 @@ public final class TownTest {
         x.baker(9, 9);
         Check.led(x, 5);
         Check.due("no trouble still", x.trouble(), 0);
+        everyCallTellsItsTrouble();
+    }
+
+    /** Each call that may be refused, once as it should be behind one that was refused, once wrong behind one that wasn't. */
+    private static void everyCallTellsItsTrouble() {
+        StayHouse x = Check.open(WHOLE);
+        x.rest(1);
+        x.go(1);
+        Runnable[] right = {() -> x.hold(0, 0, 1), () -> x.ask(0, 1, 0), () -> x.choose(0, 0), () -> x.has(0, 0, 0), () -> x.seed(1),
+            () -> x.go(1), () -> x.again(1), () -> x.held(0, 0), () -> x.earned(0, 0), () -> x.rest(1), () -> x.act(0, 0),
+            () -> x.worth(0), () -> x.gain(0), () -> x.best(0), () -> x.paid(0, 1, 0), () -> x.leavings(0, 1, 0), () -> x.kindest(0, 1),
+            () -> x.promise(0, 0, 1), () -> x.shape(0, 0, 1), () -> x.fit(0, 1), () -> x.late(0, 1), () -> x.lures(0, 0), x::edge,
+            () -> x.change(0, 2)};
+        Runnable[] wrong = {() -> x.hold(9, 0, 1), () -> x.ask(9, 1, 0), () -> x.choose(9, 0), () -> x.has(9, 0, 0), () -> x.held(9, 0),
+            () -> x.earned(9, 0), () -> x.act(9, 0), () -> x.worth(9), () -> x.gain(9), () -> x.best(9), () -> x.paid(9, 1, 0),
+            () -> x.leavings(9, 1, 0), () -> x.kindest(9, 1), () -> x.promise(9, 0, 1), () -> x.shape(9, 0, 1), () -> x.fit(9, 1),
+            () -> x.late(9, 1), () -> x.lures(9, 0), () -> x.change(9, 2)};
+        for (int i = 0; i < right.length; i++) {
+            x.hold(0, 0, -1);
+            Check.due("refused ahead of call " + i, x.trouble(), 2);
+            right[i].run();
+            Check.due("not refused, call " + i, x.trouble(), 0);
+        }
+        for (int i = 0; i < wrong.length; i++) {
+            x.hold(0, 0, 1);
+            wrong[i].run();
+            Check.due("refused, call " + i, x.trouble(), 1);
+        }
     }
 }

@@ -153,6 +153,30 @@ public final class YearsTest {
         Check.due("held, other", held.has(0, 0, 1), 19);
         Check.due("held, none", held.has(0, 0, -2), 15);
         Check.due("held, choice", held.choose(0, 0), 0);
+        farHeldOnes();
+    }
+
+    /** 10 of its own each year, or 5 now and 6 then: near ones stay with keep 50, far ones go. */
+    private static void farHeldOnes() {
+        String text = BAKERS + "sort n new 0 worth 20 leaves 9 stays 100 near;sort f new 0 worth 20 leaves 9 stays 100 far;"
+            + "prices two 5,6,10;keep 100";
+        StayHouse x = Check.open(text);
+        x.hold(0, 0, 7);
+        x.hold(0, 1, 5);
+        x.ask(0, 2, 2);
+        x.ask(1, 0, 0);
+        Check.due("near, own", x.has(0, 0, 0), 10);
+        Check.due("near, other", x.has(0, 0, 1), 6);
+        Check.due("far, own", x.has(0, 1, 0), 20);
+        Check.due("far, other", x.has(0, 1, 1), 21);
+        Check.due("near stays", x.choose(0, 0), 0);
+        Check.due("far goes", x.choose(0, 1), 1);
+        Check.due("five leave", x.go(1), 5);
+        Check.due("near ones", x.held(0, 0), 7);
+        Check.due("far ones", x.held(1, 1), 5);
+        Check.due("asked of the first", 10 * x.baker(0, 3) + x.baker(0, 4), 22);
+        Check.due("nobody else leaves", x.go(2), 0);
+        Check.due("asked still", 10 * x.baker(0, 3) + x.baker(0, 4), 22);
     }
 
     private static void farWithNoneNow() {
@@ -216,6 +240,8 @@ public final class YearsTest {
         Check.due("none", x.held(1, 0), 0);
         Check.due("each sort by itself", x.held(0, 1), 0);
         Check.due("who leaves pays the new price", x.earned(0, 0), 24);
+        Check.due("one is somebody, in the first year", Check.led(x, 0), 0);
+        Check.due("what is asked stays asked", 10 * x.baker(1, 3) + x.baker(1, 4), 11);
     }
 
     private static void leftForNone() {
