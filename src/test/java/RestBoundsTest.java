@@ -20,6 +20,7 @@ public final class RestBoundsTest {
         leastOfGreatestGains();
         sureOrNot();
         unsureOnlyAhead();
+        severalSortsAndYears();
         noSeedAtRest();
         whatOfAct();
         latestRest();
@@ -251,6 +252,56 @@ public final class RestBoundsTest {
         Check.due("with 0 it is", held(text.replace("STAYS", "0"), 11, 1).rest(2), 0);
     }
 
+    private static final String[] SEVERAL = {
+        "baker a costs 2 fits 1 enters 90;baker b costs 4 fits 2 enters 40;sort s new 10 worth 20 leaves 3 stays 50 near;"
+            + "sort t new 4 worth 12 leaves 1 stays 80 far;prices two 5,10;keep 70",
+        "baker a costs 3 fits 1 enters 30;baker b costs 1 fits 1 enters 60;baker c costs 2 fits 2 enters 30;"
+            + "sort s new 9 worth 30 leaves 6 stays 70 far;sort t new 5 worth 9 leaves 2 stays 100 near;"
+            + "sort u new 3 worth 16 leaves 4 stays 90 near;sort v new 6 worth 40 leaves 9 stays 30 far;prices one 4,8,14;keep 90",
+        "baker a costs 5 fits 3 enters 20;baker b costs 6 fits 3 enters 20;baker c costs 7 fits 3 enters 20;"
+            + "sort s new 7 worth 25 leaves 8 stays 60 near;sort t new 8 worth 13 leaves 5 stays 95 far;prices two 6,11;keep 45"};
+
+    /** Every call that looks ahead, over as many years as there is room for, held against the plain model. */
+    private static void severalSortsAndYears() {
+        int[] most = {3, 3, 2};
+        for (int t = 0; t < SEVERAL.length; t++) {
+            StayHouse x = Check.open(SEVERAL[t]);
+            Plain y = new Plain();
+            for (int at = 0; at < SEVERAL[t].length(); at += 20) {
+                y.feed(Check.four(SEVERAL[t], at), Check.four(SEVERAL[t], at + 4), Check.four(SEVERAL[t], at + 8),
+                    Check.four(SEVERAL[t], at + 12), Check.four(SEVERAL[t], at + 16));
+            }
+            y.town(SEVERAL[t].length());
+            for (int b = 0; b < x.size(0); b++) {
+                for (int s = 0; s < x.size(1); s++) {
+                    int n = (5 * b + 7 * s + 3 * t) % 13;
+                    Check.due("hold", x.hold(b, s, n), y.hold(b, s, n) == 1);
+                }
+            }
+            for (int n = 1; n <= most[t]; n++) {
+                aheadAsPlain(x, y, n);
+            }
+        }
+    }
+
+    private static void aheadAsPlain(StayHouse x, Plain y, int n) {
+        Check.due("rest over " + n, x.rest(n), y.rest(n));
+        for (int b = 0; b < x.size(0); b++) {
+            Check.due("worth", x.worth(b), y.worth(b));
+            Check.due("old", x.act(b, 0), y.act(b, 0));
+            Check.due("new", x.act(b, 1), y.act(b, 1));
+            Check.due("promise", x.promise(b, 0, n), y.promise(b, 0, n));
+            Check.due("shape", x.shape(b, 1, n), y.shape(b, 1, n));
+            Check.due("late", x.late(b, n), y.late(b, n));
+        }
+        for (int s = 0; s < x.size(1); s++) {
+            for (int law = 0; law <= 5; law++) {
+                Check.due("paid by " + law, x.paid(s, n, law), y.paid(s, n, law));
+                Check.due("leavings by " + law, x.leavings(s, n, law), y.leavings(s, n, law));
+            }
+        }
+    }
+
     private static void noSeedAtRest() {
         StayHouse x = held(CAPTIVE, 4, 4);
         for (int seed : new int[] {0, 1, 1000, 65536}) {
@@ -388,6 +439,9 @@ public final class RestBoundsTest {
             Check.due("none of " + l, x.paid(0, 1, 3), 90);
             Check.due("told still", x.sort(0, 2), l);
         }
+        StayHouse little = held(CAPTIVE.replace("5,10", "5,6"), 4, 4);
+        Check.due("1 saved and 99 to leave", little.paid(0, 1, 0), 8 * 6 + 50);
+        Check.due("1 saved and nothing to leave", little.paid(0, 1, 3), 90);
         for (int l = 18; l <= 25; l++) {
             StayHouse x = held(CAPTIVE.replace("leaves 99", "leaves " + l).replace("fits 2", "fits 1"), 4, 4);
             Check.due("a quarter of " + l + " between those that fit alike", x.paid(0, 1, 2), l / 2 / 2 >= 5 ? 130 : 90);

@@ -23,6 +23,7 @@ public final class TextBoundsTest {
         howManyBakers();
         howManySorts();
         howManyPrices();
+        wordsLetterByLetter();
         namesThatAreNone();
         namesToldOnce();
         toldTwice();
@@ -317,6 +318,25 @@ public final class TextBoundsTest {
         }
     }
 
+    /** Each word of a line with its first, its last or one letter more changed is another word, at its place. */
+    private static void wordsLetterByLetter() {
+        int from = 0;
+        for (String word : WHOLE.split("[ ;,]")) {
+            int at = WHOLE.indexOf(word, from);
+            from = at + word.length();
+            if (word.length() < 3 || !isLetter(word.charAt(0))) {
+                continue;
+            }
+            String ahead = WHOLE.substring(0, at);
+            String behind = WHOLE.substring(from);
+            bad(ahead + "q" + word.substring(1) + behind, 1, at);
+            bad(ahead + word.substring(0, word.length() - 1) + "q" + behind, 1, at);
+            bad(ahead + word + "q" + behind, 1, at);
+            bad(ahead + word.substring(0, word.length() - 1) + behind, 1, at);
+            bad(ahead + word.substring(0, 1) + " " + word.substring(1) + behind, 1, at);
+        }
+    }
+
     // ---- names, told once
 
     private static void namesThatAreNone() {
@@ -472,7 +492,7 @@ public final class TextBoundsTest {
         for (int n = 0; n <= text.length(); n++) {
             Plain y = new Plain();
             feedPlain(y, text);
-            if (n % 60 == 0) {
+            if (n % 30 == 0) {
                 x = new StayHouse();
             }
             Check.feed(x, text);

@@ -23,6 +23,8 @@ public final class YearBoundsTest {
         neverLessThanNone();
         farLikeOnes();
         farHeldOnesWithoutBaker();
+        firstCallOfATown();
+        farNewOnesInAYear();
         staysByHundredths();
         staysTogether();
         staysApart();
@@ -342,6 +344,47 @@ public final class YearBoundsTest {
             Check.due("own, twice", x.has(1, 0, 1), 2 * (20 - dear));
             Check.due("none, then new", x.has(1, 0, -2), 10);
             Check.due("choice at " + dear, x.choose(1, 0), due[i]);
+        }
+    }
+
+    private static final String LOOKS = TWO + "sort n new 7 worth 20 leaves 9 stays 100 near;sort f new 4 worth 30 leaves 9 stays 100 far;"
+        + "prices two 5,6,10;keep 100";
+
+    /** 5 now and 10 then, or 6 and 6: near ones go to the first, far ones to the second. */
+    private static StayHouse looks() {
+        StayHouse x = Check.open(LOOKS);
+        x.ask(0, 2, 0);
+        x.ask(1, 1, 1);
+        return x;
+    }
+
+    /** No call ahead of it has turned to that sort. */
+    private static void firstCallOfATown() {
+        Check.due("choose near", looks().choose(-1, 0), 0);
+        Check.due("choose far", looks().choose(-1, 1), 1);
+        Check.due("has near", looks().has(-1, 0, 0), 15);
+        Check.due("has far", looks().has(-1, 1, 1), 48);
+        StayHouse x = looks();
+        x.has(-1, 0, 0);
+        Check.due("choose far behind has near", x.choose(-1, 1), 1);
+        x.has(-1, 1, 0);
+        Check.due("choose near behind has far", x.choose(-1, 0), 0);
+        Check.due("has far behind choose near", x.has(-1, 1, 0), 45);
+    }
+
+    private static void farNewOnesInAYear() {
+        for (int seed : new int[] {0, 1, 1000}) {
+            StayHouse x = looks();
+            x.seed(seed);
+            x.go(1);
+            int near = seed == 0 ? 7 : 7 + next(seed) % 3 - 1;
+            int far = seed == 0 ? 4 : 4 + next(next(seed)) % 3 - 1;
+            Check.due("near ones by the first", x.held(0, 0), near);
+            Check.due("near ones by the second", x.held(1, 0), 0);
+            Check.due("far ones by the first", x.held(0, 1), 0);
+            Check.due("far ones by the second", x.held(1, 1), far);
+            Check.due("paid to the first", x.earned(0, 0), near * 3);
+            Check.due("paid to the second", x.earned(1, 0), far * 2);
         }
     }
 
