@@ -43,6 +43,12 @@ final class Check {
         }
     }
 
+    static void feed(Plain y, String text) {
+        for (int at = 0; at < text.length(); at += 20) {
+            y.feed(four(text, at), four(text, at + 4), four(text, at + 8), four(text, at + 12), four(text, at + 16));
+        }
+    }
+
     static int four(String text, int at) {
         int number = 0;
         for (int i = at; i < at + 4; i++) {

@@ -39,9 +39,7 @@ public final class ExtremesTest {
     }
 
     private static void open(StayHouse x, Plain y, String text) {
-        for (int at = 0; at < text.length(); at += 20) {
-            y.feed(Check.four(text, at), Check.four(text, at + 4), Check.four(text, at + 8), Check.four(text, at + 12), Check.four(text, at + 16));
-        }
+        Check.feed(y, text);
         Check.due("town", Check.town(x, text), y.town(text.length()));
     }
 

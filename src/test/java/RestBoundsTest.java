@@ -259,18 +259,17 @@ public final class RestBoundsTest {
             + "sort s new 9 worth 30 leaves 6 stays 70 far;sort t new 5 worth 9 leaves 2 stays 100 near;"
             + "sort u new 3 worth 16 leaves 4 stays 90 near;sort v new 6 worth 40 leaves 9 stays 30 far;prices one 4,8,14;keep 90",
         "baker a costs 5 fits 3 enters 20;baker b costs 6 fits 3 enters 20;baker c costs 7 fits 3 enters 20;"
-            + "sort s new 7 worth 25 leaves 8 stays 60 near;sort t new 8 worth 13 leaves 5 stays 95 far;prices two 6,11;keep 45"};
+            + "sort s new 7 worth 25 leaves 8 stays 60 near;sort t new 8 worth 13 leaves 5 stays 95 far;prices two 6,11;keep 45",
+        "baker a costs 13 fits 0 enters 51;baker b costs 8 fits 1 enters 99;sort s new 6 worth 1 leaves 9 stays 54 far;"
+            + "sort t new 2 worth 54 leaves 6 stays 70 far;prices two 3,8,15;keep 100"};
 
     /** Every call that looks ahead, over as many years as there is room for, held against the plain model. */
     private static void severalSortsAndYears() {
-        int[] most = {3, 3, 2};
+        int[] most = {3, 3, 2, 2};
         for (int t = 0; t < SEVERAL.length; t++) {
             StayHouse x = Check.open(SEVERAL[t]);
             Plain y = new Plain();
-            for (int at = 0; at < SEVERAL[t].length(); at += 20) {
-                y.feed(Check.four(SEVERAL[t], at), Check.four(SEVERAL[t], at + 4), Check.four(SEVERAL[t], at + 8),
-                    Check.four(SEVERAL[t], at + 12), Check.four(SEVERAL[t], at + 16));
-            }
+            Check.feed(y, SEVERAL[t]);
             y.town(SEVERAL[t].length());
             for (int b = 0; b < x.size(0); b++) {
                 for (int s = 0; s < x.size(1); s++) {

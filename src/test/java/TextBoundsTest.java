@@ -491,7 +491,7 @@ public final class TextBoundsTest {
         StayHouse x = new StayHouse();
         for (int n = 0; n <= text.length(); n++) {
             Plain y = new Plain();
-            feedPlain(y, text);
+            Check.feed(y, text);
             if (n % 30 == 0) {
                 x = new StayHouse();
             }
@@ -499,12 +499,6 @@ public final class TextBoundsTest {
             Check.due("first " + n, x.town(n), y.town(n));
             Check.due("fault of the first " + n, x.fault(), y.fault());
             Check.due("where of the first " + n, x.where(), y.where());
-        }
-    }
-
-    private static void feedPlain(Plain y, String text) {
-        for (int at = 0; at < text.length(); at += 20) {
-            y.feed(Check.four(text, at), Check.four(text, at + 4), Check.four(text, at + 8), Check.four(text, at + 12), Check.four(text, at + 16));
         }
     }
 
